@@ -257,7 +257,7 @@ public final class ChordPoints {
 
         /** Takes the first limbs as they stand, without the zeros on top. */
         void settle(int count, boolean isBelow) {
-            int used = Math.min(count, limbs.length);
+            int used = count <= limbs.length ? count : limbs.length;
             while (used > 0 && limbs[used - 1] == 0) {
                 used--;
             }
@@ -520,12 +520,12 @@ public final class ChordPoints {
 
         void addProduct(Num x, Num y, Num out) {
             multiply(x, y, product);
-            add(out, product, out);
+            addSigned(out, product, product.below, out);
         }
 
         void subtractProduct(Num x, Num y, Num out) {
             multiply(x, y, product);
-            subtract(out, product, out);
+            addSigned(out, product, !product.below, out);
         }
 
         /** The quotient is cut towards 0; the rest has the sign of x. */
@@ -648,7 +648,8 @@ public final class ChordPoints {
         }
 
         private void lose(Num out) {
-            out.becomeZero();
+            out.length = 0;
+            out.below = false;
             lost = true;
         }
     }
@@ -789,6 +790,10 @@ public final class ChordPoints {
 
         /** The whole part of the square root, by Newton's way from above. */
         void root(Num x, Num out) {
+            if (x.isZero()) {
+                out.becomeZero();
+                return;
+            }
             powerOfTen((x.digitCount() + 1) / 2, high);
             for (int round = 0; round < MANY_ROUNDS; round++) {
                 reckoner.divide(x, high, quotient, rest);
@@ -954,6 +959,7 @@ public final class ChordPoints {
             reckoner.lost = false;
             measureGap(p, q);
             if (!bottom.isZero()) {
+                gatherHeights(p, q);
                 drawChord(p, q);
             } else if (p.isLike(q)) {
                 drawTangent(p);
@@ -977,34 +983,12 @@ public final class ChordPoints {
             reckoner.subtract(right, left, bottom);
         }
 
-        /**
-         * With the equation put in for both y y, the x of the sum is
-         * x1 x2 (x1 + x2) + 2 a2 x1 x2 + a4 (x1 + x2) + 2 a6 - a3 (y1 + y2)
-         * - 2 y1 y2 - a1 (x1 y2 + x2 y1), over the square of x2 - x1: far less
-         * to cancel than in the square of the line's rise.
-         */
-        private void drawChord(Point p, Point q) {
+        /** The slope, and in twist the part of the chord's top that has y1 or y2 in it. */
+        private void gatherHeights(Point p, Point q) {
             reckoner.multiply(p.b, q.e3, first);
             reckoner.multiply(q.b, p.e3, second);
             reckoner.subtract(second, first, slope);
             reckoner.add(first, second, first);
-            gatherTwist(p, q);
-
-            reckoner.multiply(p.e, q.e, first);
-            reckoner.multiply(twist, first, twist);
-            reckoner.multiply(first, first, first);
-            reckoner.add(left, right, left);
-            reckoner.multiply(p.a, q.a, second);
-            reckoner.multiply(equation.twiceA2, second, right);
-            reckoner.addProduct(equation.a4, left, right);
-            reckoner.addProduct(equation.twiceA6, first, right);
-            reckoner.multiply(second, left, top);
-            reckoner.addProduct(right, first, top);
-            reckoner.subtract(top, twist, top);
-        }
-
-        /** The part with y in it, without its factor p.e q.e; first holds y1 + y2. */
-        private void gatherTwist(Point p, Point q) {
             reckoner.multiply(equation.a3, first, twist);
             reckoner.multiply(p.b, q.b, first);
             reckoner.add(twist, first, twist);
@@ -1018,6 +1002,26 @@ public final class ChordPoints {
             reckoner.multiply(second, q.e, second);
             reckoner.add(first, second, first);
             reckoner.addProduct(equation.a1, first, twist);
+        }
+
+        /**
+         * With the equation put in for both y y, the x of the sum is
+         * x1 x2 (x1 + x2) + 2 a2 x1 x2 + a4 (x1 + x2) + 2 a6 - a3 (y1 + y2)
+         * - 2 y1 y2 - a1 (x1 y2 + x2 y1), over the square of x2 - x1: far less
+         * to cancel than in the square of the line's rise.
+         */
+        private void drawChord(Point p, Point q) {
+            reckoner.multiply(p.e, q.e, first);
+            reckoner.multiply(twist, first, twist);
+            reckoner.multiply(first, first, first);
+            reckoner.add(left, right, left);
+            reckoner.multiply(p.a, q.a, second);
+            reckoner.multiply(equation.twiceA2, second, right);
+            reckoner.addProduct(equation.a4, left, right);
+            reckoner.addProduct(equation.twiceA6, first, right);
+            reckoner.multiply(second, left, top);
+            reckoner.addProduct(right, first, top);
+            reckoner.subtract(top, twist, top);
         }
 
         private void drawTangent(Point p) {

@@ -67,6 +67,7 @@ public final class PromisesTest {
         due("curve singular, node", x.curve(0, 0, 0, -3, 2), 5);
         due("curve singular, a1", x.curve(1, 0, 0, 0, 0), 5);
         due("curve singular, a1 a2 a3", x.curve(2, -1, 0, 0, 0), 5);
+        due("curve singular, a2 a4 a6", x.curve(0, -5, 0, 7, -3), 5);
         holds("after singular", x, 3, "2/1 3/1");
         int[] far = {-100000, 100000, Integer.MIN_VALUE, Integer.MAX_VALUE};
         for (int v : far) {

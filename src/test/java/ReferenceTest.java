@@ -298,6 +298,30 @@ public final class ReferenceTest {
         }
     }
 
+    /** Gives a point in, and its neighbours that are not on the curve, if all fits longs. */
+    private static void enter(ChordPoints points, Model model, Pair p) {
+        if (p == null || p.x.top.bitLength() > 62 || p.x.bottom.bitLength() > 62
+                || p.y.top.bitLength() > 62 || p.y.bottom.bitLength() > 62) {
+            return;
+        }
+        long a = p.x.top.longValue();
+        long b = p.x.bottom.longValue();
+        long c = p.y.top.longValue();
+        long d = p.y.bottom.longValue();
+        model.slots[5] = p;
+        due("point", points.point(5, -a, -b, c, d), 1);
+        compareSlot("point", points, model, 5);
+        due("point, y up", points.point(6, a, b, c + 1, d), model.has(pair(a, b, c + 1, d)) ? 1 : 0);
+        due("point, d up", points.point(6, a, b, c, d + 1), model.has(pair(a, b, c, d + 1)) ? 1 : 0);
+        due("point, x up", points.point(6, a + 1, b, c, d), model.has(pair(a + 1, b, c, d)) ? 1 : 0);
+        due("point, b up", points.point(6, a, b + 1, c, d), model.has(pair(a, b + 1, c, d)) ? 1 : 0);
+    }
+
+    private static Pair pair(long a, long b, long c, long d) {
+        return new Pair(Frac.of(BigInteger.valueOf(a), BigInteger.valueOf(b)),
+                Frac.of(BigInteger.valueOf(c), BigInteger.valueOf(d)));
+    }
+
     /** Every multiple around the place where they become TOO LONG. */
     private static void allMultiples(int size) {
         ChordPoints points = new ChordPoints();
@@ -311,6 +335,7 @@ public final class ReferenceTest {
             due("times " + -k, points.times(0, -k, 2), model.keep(model.opposite(exact), 2));
             compareSlot("times " + k, points, model, 1);
             compareSlot("times " + -k, points, model, 2);
+            enter(points, model, exact);
             if (exact != null && Model.longest(exact) > 400) {
                 break;
             }
