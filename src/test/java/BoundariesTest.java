@@ -151,6 +151,27 @@ public final class BoundariesTest {
         x.isOnFirstCurve();
     }
 
+    /** A call whose point would be TOO LONG: all slots and the curve are as before. Slot 1 has 66 P. */
+    private static void idleAtTheEdge(String name, long... v) {
+        Points x = atTheEdge();
+        String[] small = {"0/1 0/1", "", "1/1 -2/1", "2/1 0/1", "-1/1 -1/1", "3/4 -7/8", "224/169 -1834/2197", "O"};
+        int[] factors = {1, 66, 2, 3, 4, 6, 11};
+        for (int slot = 2; slot < 7; slot++) {
+            x.due(1, "times", 0, factors[slot], slot);
+        }
+        x.due(0, name, v);
+        for (int slot = 0; slot < 8; slot++) {
+            if (slot != 1) {
+                x.holds(slot, small[slot]);
+            }
+        }
+        x.due(1, "times", 0, 66, 7);
+        x.due(1, "same", 1, 7);
+        x.due(1, "point", 7, 15, 1, 48, 1);
+        x.due(1, "point", 7, 65, 49, -855, 343);
+        x.due(0, "point", 7, 65, 49, 855, 343);
+    }
+
     /** A call that changes one slot, and not the curve. */
     private static void changes(int slot, String to, long want, String name, long... v) {
         Points x = full();
@@ -516,6 +537,11 @@ public final class BoundariesTest {
         x.due(1, "isNone", 7);
         x.due(1, "less", 2, 0, 2);
         x.due(1, "same", 1, 2);
+        for (int slot = 0; slot < 8; slot++) {
+            idleAtTheEdge("sum", 0, 1, slot);
+            idleAtTheEdge("sum", 1, 1, slot);
+            idleAtTheEdge("sum", 1, slot == 7 ? 6 : Math.max(slot, 1), slot);
+        }
     }
 
     private static void aSumMayFollowOneThatIsTooLong() {
@@ -586,6 +612,9 @@ public final class BoundariesTest {
         x.due(1, "same", 2, 4);
         x.due(1, "times", 0, -1, 5);
         x.due(1, "same", 3, 5);
+        for (int slot = 0; slot < 8; slot++) {
+            idleAtTheEdge("less", 7, 1, slot);
+        }
     }
 
     /** - 66 P alone has 121 digits, but here it is only on the way. */
@@ -659,6 +688,14 @@ public final class BoundariesTest {
         x.due(1, "isNone", 7);
         x.due(0, "times", 0, 67, 0);
         x.holds(0, "0/1 0/1");
+        for (int slot = 0; slot < 8; slot++) {
+            idleAtTheEdge("times", 0, 67, slot);
+            idleAtTheEdge("times", 0, -66, slot);
+            idleAtTheEdge("times", 1, -1, slot);
+            idleAtTheEdge("times", 1, 2, slot);
+            idleAtTheEdge("times", 6, 1000000, slot);
+            idleAtTheEdge("times", 6, -1000000, slot);
+        }
     }
 
     private static void aMultipleMayFollowOneThatIsTooLong() {

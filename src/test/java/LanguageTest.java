@@ -37,6 +37,45 @@ public final class LanguageTest {
         }
     }
 
+    /** Rule 11, short methods, and rule 12: only constructors make objects, so that no call needs room. */
+    private static void checkMethods(String source) {
+        Matcher head = Pattern.compile("(?m)^( +)([\\w\\[\\] ]* )?(\\w+)\\([^;{}]*\\) \\{$").matcher(source);
+        int from = 0;
+        int count = 0;
+        while (head.find(from)) {
+            int end = source.indexOf("\n" + head.group(1) + "}", head.end());
+            String body = source.substring(head.start(), end);
+            from = end;
+            count++;
+            if (body.lines().count() > 60) {
+                refuse("the method " + head.group(3) + " is long");
+            }
+            boolean isConstructor = head.group(3).matches("[A-Z]\\w*");
+            if (!isConstructor && Pattern.compile("\\bnew\\b").matcher(body).find()) {
+                refuse("the method " + head.group(3) + " makes an object");
+            }
+        }
+        // The constructors of Point, Equation and Reckoner are not written out.
+        int due = membersOf(ChordPoints.class) - 3;
+        for (Class<?> c : ChordPoints.class.getDeclaredClasses()) {
+            due += membersOf(c);
+        }
+        if (count != due) {
+            refuse(count + " methods and constructors are found in the source, the classes have " + due);
+        }
+    }
+
+    private static int membersOf(Class<?> c) {
+        int count = 0;
+        for (Method m : c.getDeclaredMethods()) {
+            count += m.isSynthetic() ? 0 : 1;
+        }
+        for (Constructor<?> made : c.getDeclaredConstructors()) {
+            count += made.isSynthetic() ? 0 : 1;
+        }
+        return count;
+    }
+
     /** Rule 1: the face, and nothing else that can be seen from outside. */
     private static void checkFace() {
         Set<String> face = new TreeSet<>();
@@ -76,6 +115,11 @@ public final class LanguageTest {
                 names.add(m.getName());
             }
         }
+        for (Method m : ChordPoints.class.getDeclaredMethods()) {
+            if (m.getParameterCount() > 7 || Modifier.isPrivate(m.getModifiers()) && names.contains(m.getName())) {
+                refuse("method " + m);
+            }
+        }
         Class<?>[] inside = ChordPoints.class.getDeclaredClasses();
         if (inside.length > 11) {
             refuse("there are " + inside.length + " classes inside");
@@ -87,6 +131,11 @@ public final class LanguageTest {
             if (c.getDeclaredFields().length > 20) {
                 refuse(c.getName() + " has too many fields");
             }
+            for (Field f : c.getDeclaredFields()) {
+                if (Modifier.isStatic(f.getModifiers()) && !Modifier.isFinal(f.getModifiers())) {
+                    refuse("the static field " + f + " can be changed");
+                }
+            }
             for (Method m : c.getDeclaredMethods()) {
                 if (m.getParameterCount() > 7 || names.contains(m.getName())) {
                     refuse("method " + m);
@@ -96,7 +145,9 @@ public final class LanguageTest {
     }
 
     public static void main(String[] args) throws Exception {
-        checkSource(withoutComments(Files.readString(Path.of("src/main/java/ChordPoints.java"))));
+        String source = withoutComments(Files.readString(Path.of("src/main/java/ChordPoints.java")));
+        checkSource(source);
+        checkMethods(source);
         checkFace();
         checkInside();
         System.out.println(wrong == 0 ? "the source keeps to the rules that are looked at" : wrong + " refused");

@@ -45,13 +45,35 @@ public final class ReferenceTest {
     private record Pair(Frac x, Frac y) {
     }
 
+    /** An object with its calls counted, since nothing is promised past the 512th. */
+    private static final class Counted {
+        private final ChordPoints points = new ChordPoints();
+        private int calls = 0;
+
+        /** To be asked anew for each call. */
+        ChordPoints call() {
+            calls++;
+            if (calls == 513) {
+                wrong++;
+                System.out.println("this test makes more than 512 calls on one object");
+            }
+            return points;
+        }
+    }
+
+    /** What the document asks, with no more thought than that takes. */
     private static final class Model {
-        Frac a1 = Frac.of(0);
-        Frac a2 = Frac.of(0);
-        Frac a3 = Frac.of(0);
-        Frac a4 = Frac.of(0);
-        Frac a6 = Frac.of(1);
+        int[] numbers = {0, 0, 0, 0, 1};
+        Frac a1;
+        Frac a2;
+        Frac a3;
+        Frac a4;
+        Frac a6;
         final Pair[] slots = new Pair[8];
+
+        Model() {
+            take(numbers);
+        }
 
         int curve(int[] c) {
             for (int v : c) {
@@ -62,13 +84,71 @@ public final class ReferenceTest {
             if (discriminant(c).signum() == 0) {
                 return 5;
             }
+            take(c);
+            return 0;
+        }
+
+        private void take(int[] c) {
+            numbers = c;
             a1 = Frac.of(c[0]);
             a2 = Frac.of(c[1]);
             a3 = Frac.of(c[2]);
             a4 = Frac.of(c[3]);
             a6 = Frac.of(c[4]);
             java.util.Arrays.fill(slots, null);
-            return 0;
+        }
+
+        static boolean isSlot(int slot) {
+            return 0 <= slot && slot <= 7;
+        }
+
+        int point(int slot, long a, long b, long c, long d) {
+            if (!isSlot(slot) || b == 0 || d == 0) {
+                return -1;
+            }
+            Pair p = pair(a, b, c, d);
+            if (!has(p)) {
+                return 0;
+            }
+            slots[slot] = p;
+            return 1;
+        }
+
+        int sum(int p, int q, int to) {
+            return isSlot(p) && isSlot(q) && isSlot(to) ? keep(plus(slots[p], slots[q]), to) : -1;
+        }
+
+        int less(int p, int q, int to) {
+            return isSlot(p) && isSlot(q) && isSlot(to) ? keep(plus(slots[p], opposite(slots[q])), to) : -1;
+        }
+
+        int times(int p, int k, int to) {
+            return isSlot(p) && isSlot(to) && -1000000 <= k && k <= 1000000 ? keep(multiple(slots[p], k), to) : -1;
+        }
+
+        boolean none(int slot) {
+            if (isSlot(slot)) {
+                slots[slot] = null;
+            }
+            return isSlot(slot);
+        }
+
+        boolean same(int p, int q) {
+            return isSlot(p) && isSlot(q) && java.util.Objects.equals(slots[p], slots[q]);
+        }
+
+        /** Null where digits, digitAt and sign have no number to tell of. */
+        BigInteger number(int slot, int what) {
+            if (!isSlot(slot) || slots[slot] == null) {
+                return null;
+            }
+            Pair p = slots[slot];
+            return what == 0 ? p.x.top : what == 1 ? p.x.bottom : what == 2 ? p.y.top : what == 3 ? p.y.bottom : null;
+        }
+
+        int digitAt(int slot, int what, int i) {
+            BigInteger n = number(slot, what);
+            return n == null || i < 0 || i >= length(n) ? -1 : n.abs().toString().charAt(i) - '0';
         }
 
         static BigInteger discriminant(int[] c) {
@@ -128,7 +208,7 @@ public final class ReferenceTest {
                 if ((Math.abs(k) >> bit & 1) == 1) {
                     made = plus(made, base);
                 }
-                if (made != null && longest(made) > 1500) {
+                if (made != null && longest(made) > 600) {
                     return made;
                 }
             }
@@ -182,36 +262,37 @@ public final class ReferenceTest {
         }
     }
 
-    private static BigInteger number(Pair p, int what) {
-        return what == 0 ? p.x.top : what == 1 ? p.x.bottom : what == 2 ? p.y.top : p.y.bottom;
+    private static int bit(boolean b) {
+        return b ? 1 : 0;
     }
 
-    private static String shown(ChordPoints points, int slot, int what) {
-        StringBuilder text = new StringBuilder(points.sign(slot, what) == 0 ? "-" : "");
-        int count = points.digits(slot, what);
+    private static String shown(Counted x, int slot, int what) {
+        StringBuilder text = new StringBuilder(x.call().sign(slot, what) == 0 ? "-" : "");
+        int count = x.call().digits(slot, what);
         for (int i = 0; i < count; i++) {
-            text.append(points.digitAt(slot, what, i));
+            text.append(x.call().digitAt(slot, what, i));
         }
         return text.toString();
     }
 
-    private static void compareSlot(String after, ChordPoints points, Model model, int slot) {
-        Pair p = model.slots[slot];
-        due(after + ": isNone(" + slot + ")", points.isNone(slot) ? 1 : 0, p == null ? 1 : 0);
+    /** Every digit; not more than 430 calls, as x has at most 86 digits where y has 120. */
+    private static void compareSlot(String after, Counted x, Model model, int slot) {
+        due(after + ": isNone(" + slot + ")", bit(x.call().isNone(slot)), bit(model.slots[slot] == null));
         for (int what = 0; what < 4; what++) {
-            String want = p == null ? "" : number(p, what).toString();
-            String got = shown(points, slot, what);
+            BigInteger n = model.number(slot, what);
+            String want = n == null ? "" : n.toString();
+            String got = shown(x, slot, what);
             asked++;
             if (!got.equals(want)) {
                 wrong++;
                 System.out.println(after + ": slot " + slot + " number " + what + " is " + got + ", due is " + want);
             }
-            due(after + ": sign", points.sign(slot, what), p == null ? -1 : number(p, what).signum() + 1);
+            due(after + ": sign", x.call().sign(slot, what), n == null ? -1 : n.signum() + 1);
         }
     }
 
-    /** A curve with numbers up to a size, through a point with small whole x and y. */
-    private static Pair chooseCurve(ChordPoints points, Model model, int size) {
+    /** A curve with numbers up to a size, through a point with small whole x and y, which is in slot 0. */
+    private static Model chooseCurve(int size) {
         int small = size > 1000 ? 4 : 20;
         for (int turn = 0; turn < 100000; turn++) {
             long a1 = next(3) == 0 ? 0 : spread(size);
@@ -227,79 +308,131 @@ public final class ReferenceTest {
                 continue;
             }
             int[] c = {(int) a1, (int) a2, (int) a3, (int) a4, (int) a6};
+            Model model = new Model();
             int want = model.curve(c);
-            due("curve", points.curve(c[0], c[1], c[2], c[3], c[4]), want);
+            due("curve", curve(new Counted(), c), want);
             if (want == 0) {
-                return new Pair(Frac.of(x), Frac.of(y));
+                model.slots[0] = pair(x, 1, y, 1);
+                return model;
             }
         }
         throw new IllegalStateException("no curve found");
+    }
+
+    private static int curve(Counted x, int[] c) {
+        return x.call().curve(c[0], c[1], c[2], c[3], c[4]);
     }
 
     private static int spread(int size) {
         return next(2 * size + 1) - size;
     }
 
-    private static void put(ChordPoints points, Model model, int slot, Pair p) {
+    /** A new object on the model's curve, with what the model has in slot 0. */
+    private static Counted begin(Model model) {
+        Counted x = new Counted();
+        due("curve", curve(x, model.numbers), 0);
+        put(x, model.slots[0], 0);
+        return x;
+    }
+
+    /** In any terms. */
+    private static void put(Counted x, Pair p, int slot) {
         long m = next(9) - 4;
         long f = m == 0 ? 1 : m;
-        model.slots[slot] = p;
-        due("point", points.point(slot, p.x.top.longValueExact() * f, p.x.bottom.longValueExact() * f,
+        due("point", x.call().point(slot, p.x.top.longValueExact() * f, p.x.bottom.longValueExact() * f,
                 p.y.top.longValueExact() * -f, p.y.bottom.longValueExact() * -f), 1);
     }
 
+    /** Mostly one of the slots. */
+    private static int anySlot() {
+        int[] others = {-1, 8, Integer.MIN_VALUE, Integer.MAX_VALUE};
+        return next(40) == 0 ? others[next(4)] : next(8);
+    }
+
+    /** Each object gets 512 calls, one of four a look at a number. */
     private static void randomRun(int size) {
-        ChordPoints points = new ChordPoints();
-        Model model = new Model();
-        Pair start = chooseCurve(points, model, size);
-        put(points, model, next(8), start);
-        for (int call = 0; call < 60; call++) {
-            int p = next(8);
-            int q = next(8);
-            int to = next(8);
-            String name;
-            switch (next(6)) {
-                case 0: {
-                    name = "sum";
-                    Pair made = model.plus(model.slots[p], model.slots[q]);
-                    due(name, points.sum(p, q, to), model.keep(made, to));
+        Model model = chooseCurve(size);
+        Pair first = model.slots[0];
+        Counted x = begin(model);
+        while (x.calls < 512) {
+            switch (next(4)) {
+                case 0:
+                    compareNumber(x, model, anySlot(), next(30) == 0 ? next(9) - 3 : next(4));
                     break;
-                }
-                case 1: {
-                    name = "less";
-                    Pair made = model.plus(model.slots[p], model.opposite(model.slots[q]));
-                    due(name, points.less(p, q, to), model.keep(made, to));
-                    break;
-                }
-                case 2: {
-                    int k = next(4) == 0 ? next(2000001) - 1000000 : next(25) - 12;
-                    name = "times(" + k + ")";
-                    due(name, points.times(p, k, to), model.keep(model.multiple(model.slots[p], k), to));
-                    break;
-                }
-                case 3:
-                    name = "order";
-                    if (next(3) == 0) {
-                        due(name, points.order(p), model.order(model.slots[p]));
-                    }
-                    break;
-                case 4:
-                    name = "same";
-                    due(name, points.same(p, q) ? 1 : 0, java.util.Objects.equals(model.slots[p], model.slots[q]) ? 1 : 0);
+                case 1:
+                    compareOther(x, model, first);
                     break;
                 default:
-                    name = "point";
-                    put(points, model, to, start);
+                    comparePoint(x, model);
             }
-            compareSlot(name, points, model, to);
         }
-        for (int slot = 0; slot < 8; slot++) {
-            compareSlot("end", points, model, slot);
+    }
+
+    private static void comparePoint(Counted x, Model model) {
+        int p = anySlot();
+        int q = anySlot();
+        int to = anySlot();
+        switch (next(3)) {
+            case 0:
+                due("sum", x.call().sum(p, q, to), model.sum(p, q, to));
+                break;
+            case 1:
+                due("less", x.call().less(p, q, to), model.less(p, q, to));
+                break;
+            default: {
+                int k = next(8) == 0 ? next(2000100) - 1000050 : next(25) - 12;
+                due("times(" + k + ")", x.call().times(p, k, to), model.times(p, k, to));
+            }
+        }
+    }
+
+    private static void compareOther(Counted x, Model model, Pair first) {
+        int p = anySlot();
+        int q = anySlot();
+        switch (next(6)) {
+            case 0:
+                due("order", x.call().order(p), Model.isSlot(p) ? model.order(model.slots[p]) : -1);
+                break;
+            case 1:
+                due("same", bit(x.call().same(p, q)), bit(model.same(p, q)));
+                break;
+            case 2:
+                due("isNone", bit(x.call().isNone(p)), bit(Model.isSlot(p) && model.slots[p] == null));
+                break;
+            case 3:
+                due("none", bit(x.call().none(p)), bit(model.none(p)));
+                break;
+            case 4: {
+                int[] c = {0, 0, 0, next(2) == 0 ? 100000 : -3, 2};
+                due("curve", curve(x, c), model.curve(c));
+                break;
+            }
+            default: {
+                int to = next(8);
+                model.slots[to] = first;
+                put(x, first, to);
+            }
+        }
+    }
+
+    private static void compareNumber(Counted x, Model model, int slot, int what) {
+        BigInteger n = model.number(slot, what);
+        switch (next(4)) {
+            case 0:
+                due("digits", x.call().digits(slot, what), n == null ? -1 : length(n));
+                break;
+            case 1:
+                due("sign", x.call().sign(slot, what), n == null ? -1 : n.signum() + 1);
+                break;
+            default: {
+                int i = n == null ? 0 : next(length(n) + 2) - 1;
+                due("digitAt", x.call().digitAt(slot, what, i), model.digitAt(slot, what, i));
+            }
         }
     }
 
     /** Gives a point in, and its neighbours that are not on the curve, if all fits longs. */
-    private static void enter(ChordPoints points, Model model, Pair p) {
+    private static void enter(Counted x, Model model, Pair p) {
         if (p == null || p.x.top.bitLength() > 62 || p.x.bottom.bitLength() > 62
                 || p.y.top.bitLength() > 62 || p.y.bottom.bitLength() > 62) {
             return;
@@ -308,13 +441,12 @@ public final class ReferenceTest {
         long b = p.x.bottom.longValue();
         long c = p.y.top.longValue();
         long d = p.y.bottom.longValue();
-        model.slots[5] = p;
-        due("point", points.point(5, -a, -b, c, d), 1);
-        compareSlot("point", points, model, 5);
-        due("point, y up", points.point(6, a, b, c + 1, d), model.has(pair(a, b, c + 1, d)) ? 1 : 0);
-        due("point, d up", points.point(6, a, b, c, d + 1), model.has(pair(a, b, c, d + 1)) ? 1 : 0);
-        due("point, x up", points.point(6, a + 1, b, c, d), model.has(pair(a + 1, b, c, d)) ? 1 : 0);
-        due("point, b up", points.point(6, a, b + 1, c, d), model.has(pair(a, b + 1, c, d)) ? 1 : 0);
+        due("point", x.call().point(5, -a, -b, c, d), model.point(5, -a, -b, c, d));
+        compareSlot("point", x, model, 5);
+        due("point, y up", x.call().point(6, a, b, c + 1, d), model.point(6, a, b, c + 1, d));
+        due("point, d up", x.call().point(6, a, b, c, d + 1), model.point(6, a, b, c, d + 1));
+        due("point, x up", x.call().point(6, a + 1, b, c, d), model.point(6, a + 1, b, c, d));
+        due("point, b up", x.call().point(6, a, b + 1, c, d), model.point(6, a, b + 1, c, d));
     }
 
     private static Pair pair(long a, long b, long c, long d) {
@@ -324,38 +456,51 @@ public final class ReferenceTest {
 
     /** Every multiple around the place where they become TOO LONG. */
     private static void allMultiples(int size) {
-        ChordPoints points = new ChordPoints();
-        Model model = new Model();
-        Pair start = chooseCurve(points, model, size);
-        put(points, model, 0, start);
+        Model model = chooseCurve(size);
         Pair exact = null;
         for (int k = 1; k <= 200; k++) {
-            exact = model.plus(exact, start);
-            due("times " + k, points.times(0, k, 1), model.keep(exact, 1));
-            due("times " + -k, points.times(0, -k, 2), model.keep(model.opposite(exact), 2));
-            compareSlot("times " + k, points, model, 1);
-            compareSlot("times " + -k, points, model, 2);
-            enter(points, model, exact);
+            exact = model.plus(exact, model.slots[0]);
+            enter(begin(model), model, exact);
+            model.none(1);
+            compareMultiple(model, k, exact);
+            model.none(1);
+            compareMultiple(model, -k, model.opposite(exact));
             if (exact != null && Model.longest(exact) > 400) {
                 break;
             }
         }
     }
 
+    private static void compareMultiple(Model model, int k, Pair exact) {
+        Counted x = begin(model);
+        due("times " + k, x.call().times(0, k, 1), model.keep(exact, 1));
+        compareSlot("times " + k, x, model, 1);
+    }
+
     /** Sums m P + n P for all small m, n, whose lower parts often share divisors. */
     private static void allSums(int size) {
-        ChordPoints points = new ChordPoints();
-        Model model = new Model();
-        Pair start = chooseCurve(points, model, size);
-        put(points, model, 0, start);
+        Model model = chooseCurve(size);
         for (int m = -14; m <= 14; m++) {
-            due("times", points.times(0, m, 1), model.keep(model.multiple(start, m), 1));
             for (int n = m; n <= 14; n++) {
-                due("times", points.times(0, n, 2), model.keep(model.multiple(start, n), 2));
-                due("sum", points.sum(1, 2, 3), model.keep(model.plus(model.slots[1], model.slots[2]), 3));
-                compareSlot("sum", points, model, 3);
-                due("less", points.less(1, 2, 4), model.keep(model.plus(model.slots[1], model.opposite(model.slots[2])), 4));
-                compareSlot("less", points, model, 4);
+                compareSum(model, m, n);
+            }
+        }
+    }
+
+    private static void compareSum(Model model, int m, int n) {
+        for (int slot = 1; slot < 5; slot++) {
+            model.none(slot);
+        }
+        for (int turn = 0; turn < 2; turn++) {
+            Counted x = begin(model);
+            due("times", x.call().times(0, m, 1), model.times(0, m, 1));
+            due("times", x.call().times(0, n, 2), model.times(0, n, 2));
+            if (turn == 0) {
+                due("sum", x.call().sum(1, 2, 3), model.sum(1, 2, 3));
+                compareSlot("sum", x, model, 3);
+            } else {
+                due("less", x.call().less(1, 2, 4), model.less(1, 2, 4));
+                compareSlot("less", x, model, 4);
             }
         }
     }
@@ -364,27 +509,24 @@ public final class ReferenceTest {
     private static void smallCurves() {
         for (int code = 0; code < 3 * 3 * 2 * 9 * 9; code++) {
             int[] c = {code % 3 - 1, code / 3 % 3 - 1, code / 9 % 2, code / 18 % 9 - 4, code / 162 - 4};
-            ChordPoints points = new ChordPoints();
             Model model = new Model();
             int want = model.curve(c);
-            due("curve", points.curve(c[0], c[1], c[2], c[3], c[4]), want);
-            for (int x = -5; x <= 5 && want == 0; x++) {
-                for (int y = -6; y <= 6; y++) {
-                    Pair p = new Pair(Frac.of(x), Frac.of(y));
-                    boolean on = model.has(p);
-                    due("point", points.point(0, x, 1, y, 1), on ? 1 : 0);
-                    if (on) {
-                        due("order", points.order(0), model.order(p));
-                    }
-                    Pair quarter = new Pair(Frac.of(BigInteger.valueOf(x), BigInteger.valueOf(4)),
-                            Frac.of(BigInteger.valueOf(y), BigInteger.valueOf(8)));
-                    on = model.has(quarter);
-                    due("point", points.point(0, x, 4, y, 8), on ? 1 : 0);
-                    if (on) {
-                        due("order", points.order(0), model.order(quarter));
-                    }
+            for (int a = -5; a <= 5; a++) {
+                Counted x = new Counted();
+                due("curve", curve(x, c), want);
+                for (int b = -6; b <= 6 && want == 0; b++) {
+                    compareEntry(x, model, a, 1, b, 1);
+                    compareEntry(x, model, a, 4, b, 8);
                 }
             }
+        }
+    }
+
+    private static void compareEntry(Counted x, Model model, long a, long b, long c, long d) {
+        int on = model.point(0, a, b, c, d);
+        due("point", x.call().point(0, a, b, c, d), on);
+        if (on == 1) {
+            due("order", x.call().order(0), model.order(model.slots[0]));
         }
     }
 
@@ -397,7 +539,7 @@ public final class ReferenceTest {
         int[] sizes = {2, 9, 60, 900, 20000, 99999};
         for (int i = 0; i < rounds; i++) {
             int size = sizes[i % sizes.length];
-            for (int j = 0; j < 10; j++) {
+            for (int j = 0; j < 2; j++) {
                 randomRun(size);
             }
             allMultiples(size);
